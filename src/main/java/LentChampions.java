@@ -940,20 +940,21 @@ public final class LentChampions {
             choose();
         }
 
+        /** The dearest loop of all calls, so it reads its rows itself. */
         private long greatestFrom(int p, int mask) {
-            long greatest = gainWith(p, mask, NOBODY);
+            int row = p * OPTIONS;
+            int next = (p + 1) * MASKS;
             int free = fitting[p] & ~mask;
+            long greatest = gains[row + NOBODY] + reach[next + mask];
             for (int h = 0; h < NOBODY; h++) {
                 if ((free >> h & 1) == 1) {
-                    greatest = Math.max(greatest, gainWith(p, mask, h));
+                    long gain = gains[row + h] + reach[next + (mask | 1 << h)];
+                    if (gain > greatest) {
+                        greatest = gain;
+                    }
                 }
             }
             return greatest;
-        }
-
-        private long gainWith(int p, int mask, int option) {
-            int then = option == NOBODY ? mask : mask | 1 << option;
-            return gains[p * OPTIONS + option] + reach[(p + 1) * MASKS + then];
         }
 
         private void choose() {
@@ -968,9 +969,11 @@ public final class LentChampions {
         }
 
         private int firstReaching(int p, int mask) {
+            int next = (p + 1) * MASKS;
             int free = fitting[p] & ~mask;
             for (int h = 0; h < NOBODY; h++) {
-                if ((free >> h & 1) == 1 && gainWith(p, mask, h) == reach[p * MASKS + mask]) {
+                boolean can = (free >> h & 1) == 1;
+                if (can && gains[p * OPTIONS + h] + reach[next + (mask | 1 << h)] == reach[p * MASKS + mask]) {
                     return h;
                 }
             }
